@@ -135,6 +135,14 @@ public final class ImagesTest {
     x.takeOver(0, 1, 0, 1);
     Due.same("8: less skill than before", x.skill(0, 22), 1);
     Due.same("8: as it was", x.skill(0, 12), 8);
+    x.train(1, 5);
+    x.takeOver(0, 1, 0, 1);
+    // Now 33 and 34 have 5 there, 35 has 4.
+    Due.same("8: half of 5", x.skill(0, 22), 2);
+    Due.same("8: half of 5", x.skill(0, 21), 2);
+    x.tongue(2, 3, 'b');
+    Due.same("8: a digit without a letter is no letter", x.takeOver(0, 1, 0, 2), 1);
+    Due.same("8: the same tongue twice", x.takeOver(0, 1, 1, 1), 3);
     Due.thrown("8: system", () -> x.takeOver(2, 1, 3, 0), BOUNDS);
     Due.thrown("8: other system", () -> x.takeOver(0, -1, 0, 0), BOUNDS);
     Due.thrown("8: tongue", () -> x.takeOver(0, 1, 3, 0), ARGUMENT);
