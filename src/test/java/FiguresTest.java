@@ -2,8 +2,8 @@
 public final class FiguresTest {
   public static void main(String[] args) {
     Locihall x = new Locihall();
-    Due.thrown("51: none", () -> x.heldShare(), ArithmeticException.class);
-    Due.thrown("52: none", () -> x.meanHold(), ArithmeticException.class);
+    Due.thrown("51: none", () -> x.heldShare(), Due.ARITHMETIC);
+    Due.thrown("52: none", () -> x.meanHold(), Due.ARITHMETIC);
     x.image(0, 0);
     x.image(1, 0);
     x.system(1);
@@ -16,7 +16,7 @@ public final class FiguresTest {
     x.locus(0, 5);
     x.locus(1, 7);
     x.locus(1, 7);
-    Due.thrown("51: loci alone", () -> x.heldShare(), ArithmeticException.class);
+    Due.thrown("51: loci alone", () -> x.heldShare(), Due.ARITHMETIC);
     lay(x, 0, 0, 1, false);
     Due.same("50: tenths", x.tenths(), 40L);
     Due.same("51: none by r", x.heldShare(), 0f);

@@ -1,11 +1,5 @@
 /** Promises 1 to 11: images, systems, tongues. */
 public final class ImagesTest {
-  private static final Class<?> ARGUMENT = IllegalArgumentException.class;
-  private static final Class<?> STATE = IllegalStateException.class;
-  private static final Class<?> BOUNDS = IndexOutOfBoundsException.class;
-  private static final Class<?> NONE = java.util.NoSuchElementException.class;
-  private static final Class<?> CANNOT = UnsupportedOperationException.class;
-
   public static void main(String[] args) {
     aNewObject();
     image();
@@ -21,10 +15,10 @@ public final class ImagesTest {
 
   private static void aNewObject() {
     Locihall x = new Locihall();
-    Due.thrown("1: imageOf", () -> x.imageOf(0, 0), BOUNDS);
-    Due.thrown("1: locus", () -> x.locus(0, 1), BOUNDS);
-    Due.thrown("1: speak", () -> x.speak(0), BOUNDS);
-    Due.thrown("1: strength", () -> x.strength(0), BOUNDS);
+    Due.thrown("1: imageOf", () -> x.imageOf(0, 0), Due.BOUNDS);
+    Due.thrown("1: locus", () -> x.locus(0, 1), Due.BOUNDS);
+    Due.thrown("1: speak", () -> x.speak(0), Due.BOUNDS);
+    Due.thrown("1: strength", () -> x.strength(0), Due.BOUNDS);
     Due.same("1: tenths", x.tenths(), 0L);
     Due.same("1: leeches", x.leeches(), 0);
     Due.same("1: age", x.age(0), 20);
@@ -34,26 +28,26 @@ public final class ImagesTest {
 
   private static void image() {
     Locihall x = new Locihall();
-    Due.thrown("2: kind 5", () -> x.image(5, 0), ARGUMENT);
-    Due.thrown("2: kind -1", () -> x.image(-1, 0), ARGUMENT);
-    Due.thrown("2: vividness 10", () -> x.image(0, 10), ARGUMENT);
-    Due.thrown("2: vividness -1", () -> x.image(0, -1), ARGUMENT);
+    Due.thrown("2: kind 5", () -> x.image(5, 0), Due.ARGUMENT);
+    Due.thrown("2: kind -1", () -> x.image(-1, 0), Due.ARGUMENT);
+    Due.thrown("2: vividness 10", () -> x.image(0, 10), Due.ARGUMENT);
+    Due.thrown("2: vividness -1", () -> x.image(0, -1), Due.ARGUMENT);
     for (int image = 0; image < 30; image++) {
       Due.same("2: image", x.image(image % 5, image % 10), image);
     }
-    Due.thrown("2: the 31st", () -> x.image(4, 9), STATE);
-    Due.thrown("2: the 31st, out of range", () -> x.image(4, 10), ARGUMENT);
+    Due.thrown("2: the 31st", () -> x.image(4, 9), Due.STATE);
+    Due.thrown("2: the 31st, out of range", () -> x.image(4, 10), Due.ARGUMENT);
   }
 
   private static void system() {
     Locihall x = new Locihall();
-    Due.thrown("3: 0 keys", () -> x.system(0), ARGUMENT);
-    Due.thrown("3: 4 keys", () -> x.system(4), ARGUMENT);
+    Due.thrown("3: 0 keys", () -> x.system(0), Due.ARGUMENT);
+    Due.thrown("3: 4 keys", () -> x.system(4), Due.ARGUMENT);
     for (int system = 0; system < 4; system++) {
       Due.same("3: system", x.system(1 + system % 3), system);
     }
-    Due.thrown("3: the fifth", () -> x.system(3), STATE);
-    Due.thrown("3: the fifth, out of range", () -> x.system(0), ARGUMENT);
+    Due.thrown("3: the fifth", () -> x.system(3), Due.STATE);
+    Due.thrown("3: the fifth, out of range", () -> x.system(0), Due.ARGUMENT);
   }
 
   private static void learnAndImageOf() {
@@ -61,13 +55,13 @@ public final class ImagesTest {
     x.image(0, 0);
     x.image(1, 9);
     x.system(1);
-    Due.thrown("4: no such system", () -> x.learn(1, 0, 0), BOUNDS);
-    Due.thrown("4: no such image", () -> x.learn(0, 0, 2), BOUNDS);
-    Due.thrown("4: image -1", () -> x.learn(0, 0, -1), BOUNDS);
-    Due.thrown("4: no such image or key", () -> x.learn(0, 100, 2), BOUNDS);
-    Due.thrown("4: key 100", () -> x.learn(0, 100, 0), ARGUMENT);
-    Due.thrown("4: key -1", () -> x.learn(0, -1, 0), ARGUMENT);
-    Due.thrown("5: none", () -> x.imageOf(0, 0), NONE);
+    Due.thrown("4: no such system", () -> x.learn(1, 0, 0), Due.BOUNDS);
+    Due.thrown("4: no such image", () -> x.learn(0, 0, 2), Due.BOUNDS);
+    Due.thrown("4: image -1", () -> x.learn(0, 0, -1), Due.BOUNDS);
+    Due.thrown("4: no such image or key", () -> x.learn(0, 100, 2), Due.BOUNDS);
+    Due.thrown("4: key 100", () -> x.learn(0, 100, 0), Due.ARGUMENT);
+    Due.thrown("4: key -1", () -> x.learn(0, -1, 0), Due.ARGUMENT);
+    Due.thrown("5: none", () -> x.imageOf(0, 0), Due.NONE);
     Due.same("4: learn", x.learn(0, 0, 0), 1);
     Due.same("4: learn", x.learn(0, 99, 1), 2);
     x.train(0, 3);
@@ -78,26 +72,26 @@ public final class ImagesTest {
     Due.same("5: imageOf", x.imageOf(0, 0), 1);
     Due.same("5: imageOf", x.imageOf(0, 99), 1);
     Due.same("6: without an image", x.skill(0, 50), 0);
-    Due.thrown("5: system", () -> x.imageOf(1, 100), BOUNDS);
-    Due.thrown("5: key", () -> x.imageOf(0, 100), ARGUMENT);
-    Due.thrown("5: none", () -> x.imageOf(0, 1), NONE);
-    Due.thrown("6: system", () -> x.skill(-1, 100), BOUNDS);
-    Due.thrown("6: key", () -> x.skill(0, -1), ARGUMENT);
+    Due.thrown("5: system", () -> x.imageOf(1, 100), Due.BOUNDS);
+    Due.thrown("5: key", () -> x.imageOf(0, 100), Due.ARGUMENT);
+    Due.thrown("5: none", () -> x.imageOf(0, 1), Due.NONE);
+    Due.thrown("6: system", () -> x.skill(-1, 100), Due.BOUNDS);
+    Due.thrown("6: key", () -> x.skill(0, -1), Due.ARGUMENT);
   }
 
   private static void tongue() {
     Locihall x = new Locihall();
-    Due.thrown("7: tongue", () -> x.tongue(3, 0, 'a'), ARGUMENT);
-    Due.thrown("7: tongue", () -> x.tongue(-1, 0, 'a'), ARGUMENT);
-    Due.thrown("7: digit", () -> x.tongue(0, 10, 'a'), ARGUMENT);
-    Due.thrown("7: digit", () -> x.tongue(0, -1, 'a'), ARGUMENT);
-    Due.thrown("7: letter", () -> x.tongue(0, 0, 'A'), ARGUMENT);
-    Due.thrown("7: letter", () -> x.tongue(0, 0, '`'), ARGUMENT);
-    Due.thrown("7: letter", () -> x.tongue(0, 0, '{'), ARGUMENT);
-    Due.thrown("7: letter", () -> x.tongue(0, 0, (char) 0), ARGUMENT);
+    Due.thrown("7: tongue", () -> x.tongue(3, 0, 'a'), Due.ARGUMENT);
+    Due.thrown("7: tongue", () -> x.tongue(-1, 0, 'a'), Due.ARGUMENT);
+    Due.thrown("7: digit", () -> x.tongue(0, 10, 'a'), Due.ARGUMENT);
+    Due.thrown("7: digit", () -> x.tongue(0, -1, 'a'), Due.ARGUMENT);
+    Due.thrown("7: letter", () -> x.tongue(0, 0, 'A'), Due.ARGUMENT);
+    Due.thrown("7: letter", () -> x.tongue(0, 0, '`'), Due.ARGUMENT);
+    Due.thrown("7: letter", () -> x.tongue(0, 0, '{'), Due.ARGUMENT);
+    Due.thrown("7: letter", () -> x.tongue(0, 0, (char) 0), Due.ARGUMENT);
     Due.same("7: first", x.tongue(0, 0, 'a'), 1);
     Due.same("7: again", x.tongue(0, 0, 'a'), 1);
-    Due.thrown("7: taken", () -> x.tongue(0, 1, 'a'), CANNOT);
+    Due.thrown("7: taken", () -> x.tongue(0, 1, 'a'), Due.CANNOT);
     Due.same("7: another letter", x.tongue(0, 0, 'z'), 1);
     Due.same("7: free again", x.tongue(0, 9, 'a'), 2);
     Due.same("7: another tongue", x.tongue(2, 5, 'a'), 1);
@@ -128,7 +122,7 @@ public final class ImagesTest {
     Due.same("8: image", x.imageOf(0, 21), 0);
     Due.same("8: image", x.imageOf(0, 22), 1);
     Due.same("8: half, cut", x.skill(0, 21), 1);
-    Due.thrown("8: not this one", () -> x.imageOf(0, 35), NONE);
+    Due.thrown("8: not this one", () -> x.imageOf(0, 35), Due.NONE);
     Due.same("8: as it was", x.imageOf(0, 12), 1);
     Due.same("8: as it was", x.imageOf(0, 70), 1);
     x.train(0, 30);
@@ -143,11 +137,11 @@ public final class ImagesTest {
     x.tongue(2, 3, 'b');
     Due.same("8: a digit without a letter is no letter", x.takeOver(0, 1, 0, 2), 1);
     Due.same("8: the same tongue twice", x.takeOver(0, 1, 1, 1), 3);
-    Due.thrown("8: system", () -> x.takeOver(2, 1, 3, 0), BOUNDS);
-    Due.thrown("8: other system", () -> x.takeOver(0, -1, 0, 0), BOUNDS);
-    Due.thrown("8: tongue", () -> x.takeOver(0, 1, 3, 0), ARGUMENT);
-    Due.thrown("8: other tongue", () -> x.takeOver(0, 1, 0, -1), ARGUMENT);
-    Due.thrown("8: the same", () -> x.takeOver(1, 1, 0, 1), ARGUMENT);
+    Due.thrown("8: system", () -> x.takeOver(2, 1, 3, 0), Due.BOUNDS);
+    Due.thrown("8: other system", () -> x.takeOver(0, -1, 0, 0), Due.BOUNDS);
+    Due.thrown("8: tongue", () -> x.takeOver(0, 1, 3, 0), Due.ARGUMENT);
+    Due.thrown("8: other tongue", () -> x.takeOver(0, 1, 0, -1), Due.ARGUMENT);
+    Due.thrown("8: the same", () -> x.takeOver(1, 1, 0, 1), Due.ARGUMENT);
   }
 
   private static void train() {
@@ -169,9 +163,9 @@ public final class ImagesTest {
     Due.same("9: at most 9", x.skill(0, 8), 9);
     Due.same("9: no more use", x.train(0, 1), 0);
     Due.same("9: hours pass all the same", x.pass(1), 213);
-    Due.thrown("9: system", () -> x.train(1, 0), BOUNDS);
-    Due.thrown("9: 0", () -> x.train(0, 0), ARGUMENT);
-    Due.thrown("9: 201", () -> x.train(0, 201), ARGUMENT);
+    Due.thrown("9: system", () -> x.train(1, 0), Due.BOUNDS);
+    Due.thrown("9: 0", () -> x.train(0, 0), Due.ARGUMENT);
+    Due.thrown("9: 201", () -> x.train(0, 201), Due.ARGUMENT);
     Due.same("9: nothing passed", x.pass(1), 214);
   }
 
@@ -179,12 +173,12 @@ public final class ImagesTest {
     Locihall x = new Locihall();
     x.image(0, 0);
     x.system(1);
-    Due.thrown("10: system", () -> x.saved(1, 0, 0), BOUNDS);
-    Due.thrown("10: hours", () -> x.saved(0, 0, 1), ARGUMENT);
-    Due.thrown("10: hours", () -> x.saved(0, 201, 1), ARGUMENT);
-    Due.thrown("10: keys", () -> x.saved(0, 1, 0), ARGUMENT);
-    Due.thrown("10: keys", () -> x.saved(0, 1, 10000), ARGUMENT);
-    Due.thrown("10: none", () -> x.saved(0, 1, 1), NONE);
+    Due.thrown("10: system", () -> x.saved(1, 0, 0), Due.BOUNDS);
+    Due.thrown("10: hours", () -> x.saved(0, 0, 1), Due.ARGUMENT);
+    Due.thrown("10: hours", () -> x.saved(0, 201, 1), Due.ARGUMENT);
+    Due.thrown("10: keys", () -> x.saved(0, 1, 0), Due.ARGUMENT);
+    Due.thrown("10: keys", () -> x.saved(0, 1, 10000), Due.ARGUMENT);
+    Due.thrown("10: none", () -> x.saved(0, 1, 1), Due.NONE);
     x.learn(0, 1, 0);
     x.learn(0, 2, 0);
     x.learn(0, 3, 0);
@@ -202,13 +196,13 @@ public final class ImagesTest {
     x.image(0, 1);
     x.system(1);
     x.system(1);
-    Due.thrown("11: system", () -> x.paysBack(0, 2, -1), BOUNDS);
-    Due.thrown("11: system", () -> x.paysBack(2, 0, -1), BOUNDS);
-    Due.thrown("11: hours", () -> x.paysBack(0, 1, -1), ARGUMENT);
-    Due.thrown("11: hours", () -> x.paysBack(0, 1, 201), ARGUMENT);
+    Due.thrown("11: system", () -> x.paysBack(0, 2, -1), Due.BOUNDS);
+    Due.thrown("11: system", () -> x.paysBack(2, 0, -1), Due.BOUNDS);
+    Due.thrown("11: hours", () -> x.paysBack(0, 1, -1), Due.ARGUMENT);
+    Due.thrown("11: hours", () -> x.paysBack(0, 1, 201), Due.ARGUMENT);
     x.learn(0, 0, 0);
-    Due.thrown("11: none there", () -> x.paysBack(0, 1, 0), NONE);
-    Due.thrown("11: none here", () -> x.paysBack(1, 0, 0), NONE);
+    Due.thrown("11: none there", () -> x.paysBack(0, 1, 0), Due.NONE);
+    Due.thrown("11: none here", () -> x.paysBack(1, 0, 0), Due.NONE);
     x.learn(0, 1, 1);
     x.learn(1, 0, 0);
     // The means are 39 and 40; behind an hour 38 and 38, behind two 37 and 36.
