@@ -7,6 +7,8 @@ public final class FigureEdgesTest {
     shareOfLociWithTraces();
     shareByR();
     meanOfTopmost();
+    consistentWhenFull();
+    consistentWhenAlmostEmpty();
     consistentAtTheBounds();
     consistentInContests();
     consistentInSpeeches();
@@ -121,7 +123,7 @@ public final class FigureEdgesTest {
     Due.due("53: " + what, () -> x.isConsistent(), true);
   }
 
-  private static void consistentAtTheBounds() {
+  private static void consistentWhenFull() {
     Locihall x = Halls.withPlenty();
     consistent("all there can be", x);
     x.age(0);
@@ -132,30 +134,60 @@ public final class FigureEdgesTest {
     consistent("in the hour in which a sleep ended", x);
     x.train(0, 200);
     consistent("trained", x);
-    x.groups(0, 4);
-    consistent("in groups", x);
-    Due.due("2: nothing more", () -> x.system(1), Due.STATE.getSimpleName());
+    for (int size : new int[] {4, 0, 2}) {
+      x.groups(0, size);
+      consistent("by " + size, x);
+    }
+    Due.thrown("3: a fifth system", () -> x.system(1), Due.STATE);
     consistent("behind a call that throws", x);
-    Locihall y = Halls.withWalk(1, 1);
-    Halls.lay(y, 0, 0, 10);
-    consistent("the lowest hold at first", y);
-    Locihall z = Halls.withWalk(1, 9);
-    Halls.learn(z, 0, 0, 9);
-    z.learn(0, 99, 4);
-    Halls.lay(z, 0, 0, 0, 11, 12);
-    for (int count = 0; count < 7; count++) {
-      z.walk(0);
-      consistent("walked " + count, z);
+  }
+
+  private static void consistentWhenAlmostEmpty() {
+    Locihall x = new Locihall();
+    x.palace();
+    consistent("no loci", x);
+    for (int size : new int[] {0, 4, 0}) {
+      x.groups(0, size);
+      consistent("no loci, by " + size, x);
     }
-    z.tongue(0, 0, 'a');
-    z.tongue(2, 9, 'z');
-    consistent("letters", z);
-    z.fact(1);
-    z.fact(5);
+    x.system(1);
+    consistent("no images", x);
+    x.image(0, 0);
+    x.learn(0, 0, 0);
+    x.locus(0, 1);
+    Halls.lay(x, 0, 0, 0);
+    consistent("the lowest hold at first", x);
+    x.wipe(0, 0);
+    consistent("wiped", x);
+    x.tongue(0, 0, 'a');
+    x.tongue(2, 9, 'z');
+    consistent("letters", x);
+  }
+
+  private static void consistentAtTheBounds() {
+    Locihall x = Halls.withWalk(1, 9);
+    Halls.learn(x, 0, 0, 9);
+    x.learn(0, 99, 4);
+    Halls.lay(x, 0, 0, 0, 11, 12);
     for (int count = 0; count < 7; count++) {
-      z.review(1);
+      x.walk(0);
+      consistent("walked to " + count, x);
     }
-    consistent("strengths 1 and 64", z);
+    for (int count = 0; count < 8; count++) {
+      Halls.suggest(x, 0, 0, 99);
+      consistent("laid over " + count, x);
+    }
+    x.fact(1);
+    x.fact(5);
+    for (int count = 0; count < 7; count++) {
+      x.review(1);
+      consistent("reviewed " + count, x);
+    }
+    x.pass(999);
+    x.pass(999);
+    x.review(0);
+    x.review(1);
+    consistent("lapsed", x);
   }
 
   private static void consistentInContests() {

@@ -241,10 +241,17 @@ public final class PalaceEdgesTest {
     Due.range("18: trace of 2", 0, 1, trace -> withPile(2).hold(0, 0, trace), Due.NONE);
     Due.range("18: trace of 6", 0, 5, trace -> withPile(6).hold(0, 0, trace), Due.NONE);
     Due.range("18: trace of 7", 0, 5, trace -> withPile(7).hold(0, 0, trace), Due.NONE);
+    Due.range("18: trace of 2, a third one wiped", 0, 1, trace -> wiped(withPile(3)).hold(0, 0, trace), Due.NONE);
+    Due.range("18: trace of none, one wiped", 0, -1, trace -> wiped(withPile(1)).hold(0, 0, trace), Due.NONE);
     for (int trace = 0; trace < 6; trace++) {
       int asked = trace;
       Due.due("18: from the topmost one", () -> withPile(7).hold(0, 0, asked), 90f + 5f * (6 - asked));
     }
+  }
+
+  private static Locihall wiped(Locihall x) {
+    x.wipe(0, 0);
+    return x;
   }
 
   private static void wipedEmpty() {

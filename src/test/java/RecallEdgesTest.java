@@ -18,6 +18,8 @@ public final class RecallEdgesTest {
     groupSizes();
     howManyGroups();
     oneMissing();
+    inNoGroup();
+    justBehindTheGroups();
     oneInEachGroup();
     aSmallerLastGroup();
     moduloAHundred();
@@ -308,21 +310,51 @@ public final class RecallEdgesTest {
   }
 
   private static void oneMissing() {
+    Due.due("19: without groups", () -> withMissing(4, 0, 1).recall(0, 1), '-');
     for (int size = 2; size <= 4; size++) {
       for (int at = 0; at < size; at++) {
         checkInferred(at + " of " + size, withMissing(size, size, at), at);
-        Due.due("19: without groups", () -> withMissing(4, 0, 1).recall(0, 1), '-');
-        for (int second = 0; second < size; second++) {
-          int first = at;
-          int other = second;
-          int loci = size;
-          if (other != first) {
-            Due.due("19: two of " + size, () -> withMissing(loci, loci, first, other).recall(0, first), '-');
-            Due.due("19: one that is recalled", () -> withMissing(loci, loci, first).recall(0, other), 'r');
+        for (int other = 0; other < size; other++) {
+          if (other != at) {
+            checkBoth(size, at, other);
           }
         }
       }
     }
+  }
+
+  /** A sum of nothing would ask for the key 0, which has an image here. */
+  private static void inNoGroup() {
+    Locihall x = withMissing(1, 0, 0);
+    x.learn(0, 0, 0);
+    Due.due("19: no groups were told", () -> x.recall(0, 0), '-');
+    x.groups(0, 2);
+    Due.due("19: they are told", () -> x.recall(0, 0), 'i');
+    x.groups(0, 0);
+    Due.due("19: none again", () -> x.recall(0, 0), '-');
+    Due.thrown("20: none again", () -> x.recalled(0, 0, 0), Due.NONE);
+  }
+
+  /** The last group has room for more, but takes none that comes later. */
+  private static void justBehindTheGroups() {
+    for (int loci = 0; loci <= 3; loci++) {
+      Locihall x = withMissing(loci, 4);
+      int last = loci;
+      x.learn(0, 0, 0);
+      x.locus(0, 1);
+      Halls.lay(x, 0, last, 14);
+      x.pass(1);
+      Due.due("19: behind a group of " + loci, () -> x.recall(0, last), '-');
+      x.groups(0, 4);
+      Due.due("19: in it, as it is told anew", () -> x.recall(0, last), 'i');
+      Due.due("20: in it, as it is told anew", () -> x.recalled(0, last, 0), 14);
+    }
+  }
+
+  private static void checkBoth(int size, int at, int other) {
+    Due.due("19: beside a missing one of " + size, () -> withMissing(size, size, at).recall(0, other), 'r');
+    Due.due("19: one of two missing ones of " + size, () -> withMissing(size, size, at, other).recall(0, at), '-');
+    Due.thrown("20: one of two missing ones of " + size, () -> withMissing(size, size, at, other).recalled(0, at, 0), Due.NONE);
   }
 
   private static void oneInEachGroup() {
