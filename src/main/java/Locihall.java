@@ -1047,7 +1047,7 @@ public final class Locihall {
     }
 
     private float holdNow(Palace house, int at, Trace trace) {
-      float now = (float) trace.firmness * 20f / (20f + (float) (hour - trace.since));
+      float now = (float) trace.firmness * 20f / (20f + (float) hoursSince(trace));
       now = now - 2f * (float) countLikes(house, trace.firstImage);
       now = now - 3f * (float) countNeighbours(house, at, trace.kindAt(0));
       now = now - (float) (Math.max(0, years - 60) / 5);
@@ -1056,6 +1056,11 @@ public final class Locihall {
         now = now + 5f;
       }
       return now < 0f ? 0f : now;
+    }
+
+    /** Never below 0, as it goes into a divisor. */
+    private int hoursSince(Trace trace) {
+      return Math.max(0, hour - trace.since);
     }
 
     private int countLikes(Palace house, int image) {

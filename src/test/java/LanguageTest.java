@@ -29,6 +29,7 @@ public final class LanguageTest {
       }
     }
     checkThrows(lines);
+    checkDivisors(lines);
     checkLengths(lines);
     Due.end();
   }
@@ -41,6 +42,23 @@ public final class LanguageTest {
         Due.is("thrown plainly: " + line.trim(), right.matcher(line).find());
       }
     }
+  }
+
+  /** A number, a constant, or what was looked at: its own lines, or those ahead of it, show that it is not 0. */
+  private static void checkDivisors(List<String> lines) {
+    Pattern division = Pattern.compile(" [/%] (.*)");
+    Pattern looked = Pattern.compile("(\\d+L?|[A-Z]+|score|groupSize|keysAtLocus"
+        + "|\\(float\\) (count|all)|\\(double\\) all|\\(20f \\+ \\(float\\) hoursSince\\(trace\\)\\))(?![\\w.(]).*");
+    int divisions = 0;
+    for (int at = 0; at < lines.size(); at++) {
+      String code = lines.get(at).replaceAll("//.*|/\\*\\*.*", "");
+      Matcher found = division.matcher(code);
+      for (int from = 0; found.find(from); from = found.start(1)) {
+        divisions++;
+        Due.is("a divisor that was looked at, at line " + (at + 1) + ": " + found.group(1), looked.matcher(found.group(1)).matches());
+      }
+    }
+    Due.is("divisions are found", divisions > 10);
   }
 
   private static void checkLengths(List<String> lines) {
